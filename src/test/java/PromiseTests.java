@@ -173,6 +173,34 @@ public final class PromiseTests {
         found("drop: the abbreviation's sum", x, 1, 0);
         x.drop(2);
         found("drop: its own sum", x, 1, 115);
+        add(x, "z");
+        x.abbreviation(3, 1);
+        x.drop(1);
+        found("drop: the last entry is an abbreviation no more", x, 3, 0);
+    }
+
+    private static void all200AreFound() {
+        WordTrees x = new WordTrees();
+        for (int number = 1; number <= 200; number++) {
+            x.entry();
+        }
+        x.letter(1, 'a');
+        due("200: find", x.find(1000), 200);
+        due("200: the first", x.word(0), 2);
+        due("200: the last but one", x.word(198), 200);
+        due("200: the last", x.word(199), 1);
+        due("200: its sum", x.sum(199), 30);
+        due("200: none behind", x.word(200), UNKNOWN);
+        due("200: no sum behind", x.sum(200), UNKNOWN);
+        due("200: find 199", x.find(199), 199);
+        due("200: 199 and no more", x.word(199), UNKNOWN);
+        x.drop(1);
+        due("200: plain", x.plain(200), 199);
+        due("200: plain's last", x.word(198), 200);
+        due("200: an abbreviation of the last", x.abbreviation(2, 200), 1);
+        due("200: within the last", x.within(7, 200), 1);
+        due("200: drop the last", x.drop(200), 198);
+        due("200: free again", x.abbreviation(3, 2), 1);
     }
 
     private static void promise5Cost() {
@@ -485,6 +513,7 @@ public final class PromiseTests {
         promise3Letter();
         promise4Drop();
         droppedAbbreviationGivesNoSum();
+        all200AreFound();
         promise5Cost();
         promise6Clear();
         sumsByEachWay();
